@@ -298,7 +298,7 @@ public final class ArrayVault {
         private int takeNumber(int place) {
             long value = 0;
             int length = 0;
-            while (isDigit(tape.at(place + length))) {
+            while (length < Tape.MOST && isDigit(tape.at(place + length))) {
                 value = Math.min(TOO_GREAT, value * 10 + tape.at(place + length) - '0');
                 length++;
             }
@@ -322,7 +322,7 @@ public final class ArrayVault {
 
         private int wordLength(int place) {
             int length = 0;
-            while (isLetter(tape.at(place + length))) {
+            while (length < Tape.MOST && isLetter(tape.at(place + length))) {
                 length++;
             }
             return length;

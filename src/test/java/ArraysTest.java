@@ -82,6 +82,8 @@ final class ArraysTest {
         CHECKS.due("refused sizes before full", Checks.make(vault, "g", 2, 25, 2), ArrayVault.REFUSED);
         CHECKS.due("refused name before full", Checks.make(vault, "it", 2, 2, 2), ArrayVault.REFUSED);
         CHECKS.due("six", vault.count(0), 6);
+        CHECKS.due("there is no seventh", vault.set(6, 0, 0, 0, 0), ArrayVault.NONE);
+        CHECKS.due("there is a sixth", vault.set(5, 1, 1, 1, 0), 0);
     }
 
     private static void set() {
@@ -128,7 +130,7 @@ final class ArraysTest {
         ArrayVault vault = new ArrayVault();
         Checks.make(vault, "a", 4, 5, 6);
         int last = Checks.at(3, 4, 5);
-        int[][] wrong = {{1, 0, 0}, {-1, 0, 0}, {0, -1, 0}, {0, 0, -1}, {0, 32768, 32768}, {0, 0, 32768 + last},
+        int[][] wrong = {{1, 0, 0}, {-1, 0, 0}, {0, -1, 0}, {0, 0, -1}, {0, 32768, last}, {0, 0, 32768}, {0, 32768, 32768}, {0, 0, 32768 + last},
             {0, 0, Checks.at(4, 0, 0)}, {0, 0, Checks.at(0, 5, 0)}, {0, 0, Checks.at(0, 0, 6)},
             {0, Checks.at(1, 0, 0), Checks.at(0, 4, 5)}, {0, Checks.at(0, 1, 0), Checks.at(3, 0, 5)},
             {0, Checks.at(0, 0, 1), Checks.at(3, 4, 0)}, {0, Checks.at(4, 0, 0), last}, {0, Integer.MIN_VALUE, last},

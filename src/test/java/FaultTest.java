@@ -15,15 +15,19 @@ final class FaultTest {
         each(SIZES);
         each(DEPTHS);
         factors();
+        fullTape();
         CHECKS.close();
     }
 
-    /** a and b are alike, c is not; versions 1 and 3 are there, 2 is not. */
+    /** a and b are alike, the others differ from them in all axes or in one; versions 1 and 3 are there, 2 is not. */
     private static ArrayVault arrays() {
         ArrayVault vault = new ArrayVault();
         Checks.make(vault, "a", 2, 3, 2);
         Checks.make(vault, "b", 2, 3, 2);
-        Checks.make(vault, "c", 3, 2, 2);
+        Checks.make(vault, "c", 3, 2, 1);
+        Checks.make(vault, "cx", 1, 3, 2);
+        Checks.make(vault, "cy", 2, 2, 2);
+        Checks.make(vault, "cz", 2, 3, 1);
         vault.commit();
         vault.commit();
         vault.commit();
@@ -104,7 +108,8 @@ final class FaultTest {
         "sum(^c), sum(b) of a@1", "sum(^c@1) of a", "sum(^c) of a by w", "sum(^c) of a #", "sum(^c) of a where", "sum(^c) of a@2",
         "sum(^c) of a@", "sum(^c) of a a", "sum(c) of ^d", "sum(c) of^", "sum(c ^of a", "sum(c@^2) of a", "sum(c) ^a",
         "sum(c), sum(^a) of c", "sum(^a + c) of c", "count of a where ^c = 1", "count of a where ^c@2 = 1", "count of a where ^c",
-        "count of c where c = 1 and ^a = 1", "count of a where b = ^c by w", "sum(^a) of c where a = 1"};
+        "count of c where c = 1 and ^a = 1", "count of a where b = ^c by w", "sum(^a) of c where a = 1", "sum(^cx) of a",
+        "sum(^cy) of a", "sum(^cz) of a", "count of a where ^cx = 1", "count of a where ^cy = 1", "count of a where ^cz = 1"};
 
     private static final String[] DEPTHS = {"sum(((((((((^(it)))))))))) of a", "sum(--------^-it) of a",
         "sum(1 - --------^-it) of a", "sum(-(-(-(-(^-it)))) of a", "sum(-(-(-(-(^(it)))))) of a",
@@ -133,5 +138,18 @@ final class FaultTest {
         CHECKS.due("ranges and arrays do not count", Checks.ask(vault, "sum(a@1" + "+a@1".repeat(99) + ") of a@1 [0:1, 0:1, 0]"),
             ArrayVault.NONE);
         CHECKS.due("each query counts anew", Checks.ask(vault, "sum(1" + "+1".repeat(99) + ") of a"), ArrayVault.NONE);
+    }
+
+    /** As many tokens as there are bytes. */
+    private static void fullTape() {
+        ArrayVault vault = arrays();
+        CHECKS.fault(vault, "^" + "(".repeat(600));
+        CHECKS.fault(vault, "sum((((((((" + "(^(" + "(".repeat(587));
+        CHECKS.fault(vault, "^" + "a".repeat(600));
+        CHECKS.fault(vault, "sum(^" + "9".repeat(596));
+        CHECKS.fault(vault, "sum(" + "0".repeat(596) + "^");
+        CHECKS.fault(vault, " ".repeat(600) + "^");
+        CHECKS.fault(vault, "sum(1" + "+1".repeat(99) + "+^1" + "+1".repeat(195));
+        CHECKS.fault(vault, "count of a where 1=1" + " and 1=1".repeat(49) + " and ^1=1" + " and 1=1".repeat(10));
     }
 }
