@@ -47,6 +47,18 @@ final class Checks {
         due(marked, ask(vault, text), place);
     }
 
+    /** What a call that was refused must leave: all but the tape. */
+    void unchanged(String what, ArrayVault vault, State before) {
+        String change = State.changeSince(before, vault);
+        due(what + (change == null ? "" : ": " + change), change == null ? 1 : 0, 1);
+    }
+
+    /** The tape has so many bytes, no less and no more; it is left as it is. */
+    void tapeHas(String what, ArrayVault vault, int length) {
+        due(what + ": the tape has no more than " + length, vault.end(length + 1), ArrayVault.REFUSED);
+        due(what + ": the tape has " + length, vault.end(length), length);
+    }
+
     /** Says what came out; the exit code is 1 if an answer was wrong. */
     void close() {
         System.out.println(name + ": " + passed + " passed, " + failed + " failed");
