@@ -111,7 +111,8 @@ final class AnswersEdgesTest {
     private static void queryLeavesTheRest() {
         ArrayVault vault = Scene.ready();
         State before = State.of(vault);
-        CHECKS.rows(vault, "sum(it + b@1), first(a@3) of a@1 where not null(it) by z", Checks.row(0, 2 * 360 + 6, -5), Checks.row(1, 2 * 366 + 6, 1));
+        CHECKS.rows(vault, "sum(it + b@1), first(a@3) of a@1 where not null(it) by z", Checks.row(0, 2 * 360 + 6, -5),
+            Checks.row(1, 2 * 366 + 6, 1));
         CHECKS.due("the same query as at first", Checks.ask(vault, "count, sum(it) of a by x"), ArrayVault.NONE);
         CHECKS.unchanged("query", vault, before);
     }
@@ -188,8 +189,9 @@ final class AnswersEdgesTest {
     private static void cellOfNone() {
         ArrayVault vault = Scene.ready();
         CHECKS.due("the last", vault.cell(1, 2), 542);
-        int[][] none = {{2, 0}, {2, 2}, {0, 3}, {1, 3}, {2, 3}, {-1, 0}, {0, -1}, {-1, -1}, {0, 4}, {0, 5}, {1, 5}, {23, 0}, {24, 0},
-            {LEAST, 0}, {0, LEAST}, {GREATEST, 0}, {0, GREATEST}, {GREATEST, GREATEST}, {LEAST, LEAST}, {1 << 30, 1}, {1, -5}, {-1, 5}};
+        int[][] none = {{2, 0}, {2, 2}, {0, 3}, {1, 3}, {2, 3}, {-1, 0}, {0, -1}, {-1, -1}, {0, 4}, {0, 5}, {1, 5}, {23, 0},
+            {24, 0}, {LEAST, 0}, {0, LEAST}, {GREATEST, 0}, {0, GREATEST}, {GREATEST, GREATEST}, {LEAST, LEAST}, {1 << 30, 1},
+            {1, -5}, {-1, 5}};
         for (int[] n : none) {
             CHECKS.due("cell(" + n[0] + ", " + n[1] + ")", vault.cell(n[0], n[1]), 4611686018427387905L);
         }

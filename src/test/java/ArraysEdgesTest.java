@@ -16,9 +16,9 @@ final class ArraysEdgesTest {
         {0, Checks.at(0, 3, 0), Checks.at(1, 3, 1)}, {0, Checks.at(0, 0, 2), Checks.at(1, 2, 2)},
         {0, Checks.at(1, 0, 0), Checks.at(0, 2, 1)}, {0, Checks.at(0, 1, 0), Checks.at(1, 0, 1)},
         {0, Checks.at(0, 0, 1), Checks.at(1, 2, 0)}, {0, Checks.at(1, 2, 1), 0}, {0, -1, 0}, {0, 0, -1}, {0, -1, -1},
-        {0, 32768, 32768}, {0, 32768, 32768 + Checks.at(1, 2, 1)}, {0, 0, 32768}, {0, 0, 32768 + Checks.at(1, 2, 1)},
-        {0, -32768, 0}, {0, 0, 65536}, {0, LEAST, 0}, {0, 0, GREATEST}, {0, 0, LEAST}, {0, 1 << 20, 1 << 20},
-        {2, 0, Checks.at(1, 0, 0)}};
+        {0, 32768, 0}, {0, 32768, Checks.at(1, 2, 1)}, {0, 32768, 32768}, {0, 32768, 32768 + Checks.at(1, 2, 1)}, {0, 0, 32768},
+        {0, 0, 32768 + Checks.at(1, 2, 1)}, {0, -32768, 0}, {0, 0, 65536}, {0, LEAST, 0}, {0, 0, GREATEST}, {0, 0, LEAST},
+        {0, 1 << 20, 1 << 20}, {2, 0, Checks.at(1, 0, 0)}};
 
     public static void main(String[] args) {
         numberedFromZero();
@@ -92,7 +92,17 @@ final class ArraysEdgesTest {
         CHECKS.unchanged("THERE", vault, before);
         CHECKS.due("another", Checks.make(vault, "aa", 1, 1, 1), 3);
         CHECKS.due("one that begins alike", Checks.make(vault, "aaa", 1, 1, 1), 4);
-        CHECKS.due("the other way round", Checks.make(vault, "ba", 1, 1, 1), 5);
+        CHECKS.due("the last of six", Checks.make(vault, "ba", 1, 1, 1), 5);
+        ArrayVault alike = new ArrayVault();
+        String[] names = {"ab", "ba", "abb", "bab", "aab", "aabbaa"};
+        for (int i = 0; i < names.length; i++) {
+            CHECKS.due("the same letters: " + names[i], Checks.make(alike, names[i], 1, 1, 1), i);
+            alike.set(i, 0, 0, 0, i);
+        }
+        for (int i = 0; i < names.length; i++) {
+            CHECKS.tells(alike, "sum(it) of " + names[i], i);
+            CHECKS.due("again: " + names[i], Checks.make(alike, names[i], 1, 1, 1), ArrayVault.THERE);
+        }
     }
 
     /** "REFUSED for another name or sizes; then THERE if one has the name; then FULL with 6" */
@@ -158,7 +168,8 @@ final class ArraysEdgesTest {
             CHECKS.due("cells", vault.count(3), s[0] * s[1] * s[2]);
             CHECKS.due("the last", vault.set(0, s[0] - 1, s[1] - 1, s[2] - 1, 1), 0);
         }
-        int[][] refused = {{14, 11, 13}, {11, 13, 14}, {13, 14, 11}, {24, 24, 4}, {24, 4, 24}, {4, 24, 24}, {24, 24, 24}, {12, 24, 7}};
+        int[][] refused = {{14, 11, 13}, {11, 13, 14}, {13, 14, 11}, {24, 24, 4}, {24, 4, 24}, {4, 24, 24}, {24, 24, 24},
+            {12, 24, 7}};
         for (int[] s : refused) {
             ArrayVault vault = new ArrayVault();
             CHECKS.due(s[0] + " by " + s[1] + " by " + s[2], Checks.make(vault, "a", s[0], s[1], s[2]), ArrayVault.REFUSED);
@@ -215,7 +226,8 @@ final class ArraysEdgesTest {
         ArrayVault vault = Scene.ready();
         State before = State.of(vault);
         for (int[] n : NO_CELLS) {
-            CHECKS.due("set " + n[0] + ": " + n[1] + " " + n[2] + " " + n[3], vault.set(n[0], n[1], n[2], n[3], 77), ArrayVault.NONE);
+            CHECKS.due("set " + n[0] + ": " + n[1] + " " + n[2] + " " + n[3], vault.set(n[0], n[1], n[2], n[3], 77),
+                ArrayVault.NONE);
         }
         CHECKS.unchanged("set of no cell", vault, before);
         CHECKS.due("the last place", vault.set(0, 1, 2, 1, 77), 0);
@@ -283,12 +295,16 @@ final class ArraysEdgesTest {
         CHECKS.due("ten times the greatest", vault.get(0, 3, 3, 3, 0), -10);
     }
 
-    /** "NONE if there is no such array, or one of the places is not in it, or the second is before the first in an axis"; "another number is no place" */
+    /**
+     * "NONE if there is no such array, or one of the places is not in it, or the second is before the first in an axis";
+     * "another number is no place"
+     */
     private static void fillOfNoBox() {
         ArrayVault vault = Scene.ready();
         State before = State.of(vault);
         for (int[] n : NO_BOXES) {
-            CHECKS.due("fill " + n[0] + " from " + n[1] + " to " + n[2], vault.fill(n[0], n[1], n[2], 77, 0, 0, 0), ArrayVault.NONE);
+            CHECKS.due("fill " + n[0] + " from " + n[1] + " to " + n[2], vault.fill(n[0], n[1], n[2], 77, 0, 0, 0),
+                ArrayVault.NONE);
         }
         CHECKS.unchanged("fill of no box", vault, before);
         CHECKS.due("the whole", vault.fill(0, 0, Checks.at(1, 2, 1), 77, 0, 0, 0), 12);
@@ -337,7 +353,8 @@ final class ArraysEdgesTest {
         ArrayVault vault = Scene.ready();
         for (int[] n : NO_CELLS) {
             for (int version : new int[] {0, 1, 2}) {
-                CHECKS.due("get " + n[0] + ": " + n[1] + " " + n[2] + " " + n[3], vault.get(n[0], n[1], n[2], n[3], version), 1099511627777L);
+                CHECKS.due("get " + n[0] + ": " + n[1] + " " + n[2] + " " + n[3], vault.get(n[0], n[1], n[2], n[3], version),
+                    1099511627777L);
             }
         }
         CHECKS.due("the last place", vault.get(0, 1, 2, 1, 1), 121);

@@ -1,4 +1,4 @@
-/** The edges of QUERY and FAULT in the document's Terms: one method for each sentence. The mark ^ stands where the fault is due. */
+/** The edges of QUERY and FAULT in the document's Terms: one method for each sentence. Faults are due at the mark ^. */
 final class QueryEdgesTest {
     private static final Checks CHECKS = new Checks("QueryEdgesTest");
 
@@ -74,16 +74,16 @@ final class QueryEdgesTest {
     }
 
     private static void tellsBeforeTheArray() {
-        faults("^a", "^it of a", "^1 of a", "^abs(it) of a", "^null(it) of a", "^not count of a", "^avg(it) of a", "^(count) of a",
-            "count ^a", "count ^where 1 = 1", "count ^by x", "count ^[*, *, *] of a", "count^");
+        faults("^a", "^it of a", "^1 of a", "^abs(it) of a", "^null(it) of a", "^not count of a", "^avg(it) of a",
+            "^(count) of a", "count ^a", "count ^where 1 = 1", "count ^by x", "count ^[*, *, *] of a", "count^");
     }
 
     /** "count, or sum ( EXPR ), min ( EXPR ), max ( EXPR ), first ( EXPR )" */
     private static void bracketsOfTells() {
         good("sum(it)of a", "min(it)of a", "max(it)of a", "first(it)of a", "count of a");
         faults("count ^(it) of a", "sum ^of a", "sum ^it of a", "min ^it of a", "max ^it of a", "first ^it of a", "sum(^) of a",
-            "sum(it ^of a", "sum(it ^, it) of a", "sum(it)^) of a", "sum(it) ^+ 1 of a", "sum(^sum(it)) of a",
-            "sum(^count) of a", "sum(it ^= 1) of a", "sum(^not it) of a", "sum(^null(it)) of a", "sum^[it] of a");
+            "sum(it ^of a", "sum(it ^, it) of a", "sum(it)^) of a", "sum(it) ^+ 1 of a", "sum(^sum(it)) of a", "sum(^count) of a",
+            "sum(it ^= 1) of a", "sum(^not it) of a", "sum(^null(it)) of a", "sum^[it] of a");
     }
 
     /** "["[" RANGE , RANGE , RANGE "]"]": one or none */
@@ -103,7 +103,8 @@ final class QueryEdgesTest {
     private static void oneAxisOrNone() {
         good("count of a by x", "count of a by y", "count of a by z");
         faults("count of a by x ^by y", "count of a by x ^, y", "count of a by x ^y", "count of a by^", "count of a by ^w",
-            "count of a by ^it", "count of a by ^a", "count of a by ^1", "count of a by ^xy", "count of a by ^(x)", "count of a ^x");
+            "count of a by ^it", "count of a by ^a", "count of a by ^1", "count of a by ^xy", "count of a by ^(x)",
+            "count of a ^x");
     }
 
     private static void partsInTheirOrder() {
@@ -141,8 +142,8 @@ final class QueryEdgesTest {
         good("count of a [0, 0, 0]", "count of a [1, 2, 1]", "count of a [0:1, 0:2, 0:1]", "count of c [0, 2, 1]");
         faults("count of a [^2, *, *]", "count of a [*, ^3, *]", "count of a [*, *, ^2]", "count of a [0:^2, *, *]",
             "count of a [*, 0:^3, *]", "count of a [*, *, 0:^2]", "count of a [^2:2, *, *]", "count of a [^2:0, *, *]",
-            "count of c [^1, *, *]", "count of a [^2147483647, *, *]", "count of a [0:^2147483647, *, *]", "count of a [^-1, *, *]",
-            "count of a [0:^-1, *, *]");
+            "count of c [^1, *, *]", "count of a [^2147483647, *, *]", "count of a [0:^2147483647, *, *]",
+            "count of a [^-1, *, *]", "count of a [0:^-1, *, *]");
         ArrayVault vault = Scene.ready();
         CHECKS.rows(vault, "count, first(x), first(y), first(z) of a [1, 2, 1]", Checks.row(0, 1, 1, 2, 1));
         CHECKS.rows(vault, "count of a [0:1, 1, *] by y", Checks.row(1, 4));
@@ -157,21 +158,22 @@ final class QueryEdgesTest {
     }
 
     private static void threeRanges() {
-        faults("count of a [^", "count of a [^]", "count of a [^, *, *]", "count of a [*^", "count of a [*^]", "count of a [*, *^]",
-            "count of a [*, *,^", "count of a [*, *, ^]", "count of a [*, *, *^", "count of a [*, *, *^, *]", "count of a [* ^*, *]",
-            "count of a [0:^, *, *]", "count of a [0:^*, *, *]", "count of a [^:1, *, *]", "count of a [0:1^:1, *, *]",
-            "count of a [*^:1, *, *]", "count of a [0 ^1, *, *]", "count of a [^x, *, *]", "count of a [0^+1, *, *]",
-            "count of a [*, *, *^) by x", "count of a [^(0), *, *]");
+        faults("count of a [^", "count of a [^]", "count of a [^, *, *]", "count of a [*^", "count of a [*^]",
+            "count of a [*, *^]", "count of a [*, *,^", "count of a [*, *, ^]", "count of a [*, *, *^",
+            "count of a [*, *, *^, *]", "count of a [* ^*, *]", "count of a [0:^, *, *]", "count of a [0:^*, *, *]",
+            "count of a [^:1, *, *]", "count of a [0:1^:1, *, *]", "count of a [*^:1, *, *]", "count of a [0 ^1, *, *]",
+            "count of a [^x, *, *]", "count of a [0^+1, *, *]", "count of a [*, *, *^) by x", "count of a [^(0), *, *]");
     }
 
     /** "FACTOR: NUMBER; - FACTOR; abs ( EXPR ); x, y, z; it; ARRAY; ( EXPR )" and what joins them */
     private static void factors() {
         good("sum(1) of a", "sum(-1) of a", "sum(abs(1)) of a", "sum(x + y + z) of a", "sum(it) of a", "sum(b) of a",
             "sum(b@1) of a", "sum((1)) of a", "sum(1 * -2) of a", "sum(1 - -2) of a", "sum(- - 1) of a", "sum(-abs(-(-x))) of a");
-        faults("sum(^+1) of a", "sum(^*1) of a", "sum(1 +^) of a", "sum(1 + ^+ 1) of a", "sum(1 * ^* 1) of a", "sum(1 - ^/ 1) of a",
-            "sum(1 ^1) of a", "sum(x ^y) of a", "sum(it ^it) of a", "sum(2 ^(1)) of a", "sum(it ^(1)) of a", "sum(-^) of a",
-            "sum((^)) of a", "sum((1 ^of a", "sum(abs ^it) of a", "sum(abs(^)) of a", "sum(abs(it ^of a", "sum(^[it]) of a",
-            "sum(^@1) of a", "sum(^where) of a", "sum(^by) of a", "sum(^of a", "sum(it ^and it) of a", "sum(1 ^: 2) of a");
+        faults("sum(^+1) of a", "sum(^*1) of a", "sum(1 +^) of a", "sum(1 + ^+ 1) of a", "sum(1 * ^* 1) of a",
+            "sum(1 - ^/ 1) of a", "sum(1 ^1) of a", "sum(x ^y) of a", "sum(it ^it) of a", "sum(2 ^(1)) of a", "sum(it ^(1)) of a",
+            "sum(-^) of a", "sum((^)) of a", "sum((1 ^of a", "sum(abs ^it) of a", "sum(abs(^)) of a", "sum(abs(it ^of a",
+            "sum(^[it]) of a", "sum(^@1) of a", "sum(^where) of a", "sum(^by) of a", "sum(^of a", "sum(it ^and it) of a",
+            "sum(1 ^: 2) of a");
     }
 
     /** "ARRAY: the cell at the place of another one (or the same), which has the same sizes" */
@@ -203,37 +205,41 @@ final class QueryEdgesTest {
         faults("sum(^c) of a", "sum(a + ^c) of a", "sum(^c + c) of a", "sum(^a) of c", "count, sum(it), max(b * ^c@1) of a",
             "sum(^c) of a by w", "sum(^c) of a [9, *, *]", "sum(^c) of a where", "sum(^c) of a #", "sum(^c) of a@9",
             "sum(b), sum(^c), max(it) of a");
-        faults("sum(c ^of a", "sum(c) of ^nope", "sum(c) of^", "sum(c@^2) of a", "sum(c + ^nope) of a", "sum(c) ^by x", "sum(c ^#) of a");
+        faults("sum(c ^of a", "sum(c) of ^nope", "sum(c) of^", "sum(c@^2) of a", "sum(c + ^nope) of a", "sum(c) ^by x",
+            "sum(c ^#) of a");
     }
 
     /** "EXPR SIGN EXPR, where the first does not begin with (" */
     private static void firstDoesNotBeginWithABracket() {
-        good("count of a where it = (1)", "count of a where it * (1) = 1", "count of a where -(it) = 1", "count of a where abs(it) = 1",
-            "count of a where (it = 1)", "count of a where ((it = 1))", "count of a where (it = (1))");
-        faults("count of a where (it^) = 1", "count of a where (1 + 2^) = 3", "count of a where ((it^) = 1)", "count of a where (1 ^",
-            "count of a where (it = 1) ^= 1", "count of a where (it = 1) ^+ 1 = 2", "count of a where not (it^) = 1",
-            "count of a where 1 = 1 and (x^) = 1");
+        good("count of a where it = (1)", "count of a where it * (1) = 1", "count of a where -(it) = 1",
+            "count of a where abs(it) = 1", "count of a where (it = 1)", "count of a where ((it = 1))",
+            "count of a where (it = (1))");
+        faults("count of a where (it^) = 1", "count of a where (1 + 2^) = 3", "count of a where ((it^) = 1)",
+            "count of a where (1 ^", "count of a where (it = 1) ^= 1", "count of a where (it = 1) ^+ 1 = 2",
+            "count of a where not (it^) = 1", "count of a where 1 = 1 and (x^) = 1");
     }
 
     /** "TEST: ALL { or ALL }; ALL: NOT { and NOT }; NOT: not NOT; null ( EXPR ); ..." */
     private static void tests() {
         good("count of a where x = 1 or y = 1 and not z = 1 or null(it)", "count of a where not not null(it)",
             "count of a where not (x = 1 or y = 1) and z = 1", "count of a where (not (null(it)))");
-        faults("count of a where x = 1 or^", "count of a where x = 1 and^", "count of a where not^", "count of a where x = 1 and ^or y = 1",
-            "count of a where x = 1 ^not y = 1", "count of a where x ^and y", "count of a where not x ^and y = 1", "count of a where ^or x = 1",
-            "count of a where null ^it", "count of a where null(^)", "count of a where null(it ^= 1)", "count of a where null(it) ^= 1",
+        faults("count of a where x = 1 or^", "count of a where x = 1 and^", "count of a where not^",
+            "count of a where x = 1 and ^or y = 1", "count of a where x = 1 ^not y = 1", "count of a where x ^and y",
+            "count of a where not x ^and y = 1", "count of a where ^or x = 1", "count of a where null ^it",
+            "count of a where null(^)", "count of a where null(it ^= 1)", "count of a where null(it) ^= 1",
             "count of a where null(it^", "count of a where 1 = ^null(it)", "count of a where 1 = ^not it", "count of a where (^)",
-            "count of a where (x = 1^", "count of a where (x = 1 ^by x", "count of a where x = 1 ^) by x", "count of a where abs(it ^= 1)",
-            "count of a where x = 1 ^, y = 1", "count of a where ^count = 1", "count of a where ^sum(it) = 1");
+            "count of a where (x = 1^", "count of a where (x = 1 ^by x", "count of a where x = 1 ^) by x",
+            "count of a where abs(it ^= 1)", "count of a where x = 1 ^, y = 1", "count of a where ^count = 1",
+            "count of a where ^sum(it) = 1");
     }
 
     /** "SIGN: = != < <= > >=" */
     private static void sixSigns() {
         good("count of a where x = 1", "count of a where x != 1", "count of a where x < 1", "count of a where x <= 1",
             "count of a where x > 1", "count of a where x >= 1");
-        faults("count of a where x = 1 ^= 1", "count of a where 0 < x ^< 2", "count of a where x =^= 1", "count of a where x <^> 1",
-            "count of a where x =^> 1", "count of a where x ^1", "count of a where x ^", "count of a where x =^", "count of a where ^= 1",
-            "count of a where x ^: 1");
+        faults("count of a where x = 1 ^= 1", "count of a where 0 < x ^< 2", "count of a where x =^= 1",
+            "count of a where x <^> 1", "count of a where x =^> 1", "count of a where x ^1", "count of a where x ^",
+            "count of a where x =^", "count of a where ^= 1", "count of a where x ^: 1");
     }
 
     /** "Brackets ... at most 8 deep" */
@@ -243,9 +249,10 @@ final class QueryEdgesTest {
         CHECKS.tells(vault, "count of a where " + times(8, "(") + "x = 1" + times(8, ")"), 6);
         CHECKS.tells(vault, "count of a where 1 = " + times(8, "(") + "x" + times(8, ")"), 6);
         CHECKS.tells(vault, "count of a where " + times(7, "(") + "1 = (x)" + times(7, ")"), 6);
-        faults("sum(" + times(8, "(") + "^(it" + times(9, ")") + ") of b", "count of a where " + times(8, "(") + "^(x = 1" + times(9, ")"),
-            "count of a where 1 = " + times(8, "(") + "^(x" + times(9, ")"), "count of a where " + times(8, "(") + "1 = ^(x)" + times(8, ")"),
-            "sum(" + times(8, "(") + "^" + times(300, "("));
+        faults("sum(" + times(8, "(") + "^(it" + times(9, ")") + ") of b",
+            "count of a where " + times(8, "(") + "^(x = 1" + times(9, ")"),
+            "count of a where 1 = " + times(8, "(") + "^(x" + times(9, ")"),
+            "count of a where " + times(8, "(") + "1 = ^(x)" + times(8, ")"), "sum(" + times(8, "(") + "^" + times(300, "("));
     }
 
     /** "(of abs ..." */
@@ -262,7 +269,8 @@ final class QueryEdgesTest {
         ArrayVault vault = Scene.ready();
         CHECKS.tells(vault, "count of a where null(" + times(7, "(") + "it" + times(8, ")"), 1);
         CHECKS.tells(vault, "count of a where " + times(7, "(") + "null(it)" + times(7, ")"), 1);
-        faults("count of a where null(" + times(7, "(") + "^(it" + times(9, ")"), "count of a where " + times(8, "(") + "null^(it)" + times(8, ")"));
+        faults("count of a where null(" + times(7, "(") + "^(it" + times(9, ")"),
+            "count of a where " + times(8, "(") + "null^(it)" + times(8, ")"));
     }
 
     /** "not" */
@@ -282,8 +290,9 @@ final class QueryEdgesTest {
         CHECKS.tells(vault, "sum(" + times(8, "-") + "x) of b", 6);
         CHECKS.tells(vault, "sum(1 - " + times(8, "-") + "x) of b", 6);
         CHECKS.tells(vault, "sum(" + times(7, "- ") + "(x)) of b", -6);
-        faults("sum(" + times(8, "-") + "^-x) of b", "sum(1 - " + times(8, "-") + "^-x) of b", "sum(" + times(8, "- ") + "^(x)) of b",
-            "sum(1 * " + times(8, "-") + "^-x) of b", "sum(" + times(8, "-") + "abs^(x)) of b");
+        faults("sum(" + times(8, "-") + "^-x) of b", "sum(1 - " + times(8, "-") + "^-x) of b",
+            "sum(" + times(8, "- ") + "^(x)) of b", "sum(1 * " + times(8, "-") + "^-x) of b",
+            "sum(" + times(8, "-") + "abs^(x)) of b");
     }
 
     private static void allKindsTogetherEightDeep() {
@@ -304,7 +313,8 @@ final class QueryEdgesTest {
         CHECKS.tells(vault, "sum(" + eight + " + " + eight + " - " + eight + ") of b", 6);
         CHECKS.tells(vault, "sum(9 - 1 - 1 - 1 - 1 - 1 - 1 - 1 - 1 - 1 - 1) of b [0, 0, 0]", -1);
         CHECKS.tells(vault, "sum(-1 - -1 - -1 - -1 - -1 - -1 - -1 - -1 - -1 - -1) of b [0, 0, 0]", 8);
-        CHECKS.tells(vault, "count of a where not x = 0 and not x = 0 and not x = 0 and not x = 0 and not x = 0 and not x = 0 and not x = 0"
+        CHECKS.tells(vault,
+            "count of a where not x = 0 and not x = 0 and not x = 0 and not x = 0 and not x = 0 and not x = 0 and not x = 0"
             + " and not x = 0 and not x = 0", 6);
         CHECKS.tells(vault, "count of a [0, 0, 0] where (x = 0) and (x = 0) or (x = 0) or ((x = 0)) or (((((((x = 0)))))))", 1);
     }
@@ -318,8 +328,9 @@ final class QueryEdgesTest {
         CHECKS.tells(vault, "sum(b" + times(99, "+b@1") + ") of b [0, 0, 0]", 100);
         CHECKS.rows(vault, "sum(1" + times(49, "*1") + "), sum(1" + times(47, "*1") + ") of c where 1 = 1", Checks.row(0, 6, 6));
         CHECKS.tells(vault, "count of c where x=0" + times(49, " and x=0"), 6);
-        faults("sum(1" + times(99, "+1") + "+^1) of c", "sum(1" + times(99, "+1") + "+^x) of c", "sum(1" + times(99, "+1") + "+^it) of c",
-            "sum(1" + times(99, "+1") + "+^c) of c", "sum(1" + times(99, "+1") + "+^c@9) of c");
+        faults("sum(1" + times(99, "+1") + "+^1) of c", "sum(1" + times(99, "+1") + "+^x) of c",
+            "sum(1" + times(99, "+1") + "+^it) of c", "sum(1" + times(99, "+1") + "+^c) of c",
+            "sum(1" + times(99, "+1") + "+^c@9) of c");
         faults("sum(1" + times(99, "+1") + "), min(^1) of c", "sum(1" + times(99, "+1") + ") of c where ^1 = 1");
         faults("sum(1" + times(98, "+1") + ") of c where 1 = ^1", "sum(1" + times(99, "+1") + "+-(-abs(^1");
     }
@@ -337,29 +348,34 @@ final class QueryEdgesTest {
 
     /** "the place of the first token that can not stand there" */
     private static void faultOfTheFirst() {
-        faults("^of of of", "count ^a nope #", "count of ^nope by w", "count of a [^9, 9, 9] by w", "count of a where ^c = nope", "count of a by ^w w",
-            "sum(^nope + nope) of nope", "count, ^, of nope", "count of a@^9 [9, *, *]", "count of a where ^nope = 99999999999");
+        faults("^of of of", "count ^a nope #", "count of ^nope by w", "count of a [^9, 9, 9] by w", "count of a where ^c = nope",
+            "count of a by ^w w", "sum(^nope + nope) of nope", "count, ^, of nope", "count of a@^9 [9, *, *]",
+            "count of a where ^nope = 99999999999");
     }
 
     /** "(for one that is too much ...: its own" */
     private static void faultOfOneTooMuch() {
-        faults("count,count,count,count, ^min(nope) of a", "sum(((((((((^(1)))))))))) of a", "count of a where not not not not not not not not ^not 1 = 1",
-            "sum(1" + times(99, "+1") + "+^nope) of a", "count of a [*, *, *^, *]", "count of a by x ^z");
+        faults("count,count,count,count, ^min(nope) of a", "sum(((((((((^(1)))))))))) of a",
+            "count of a where not not not not not not not not ^not 1 = 1", "sum(1" + times(99, "+1") + "+^nope) of a",
+            "count of a [*, *, *^, *]", "count of a by x ^z");
     }
 
     /** "out of range" */
     private static void faultOutOfRange() {
-        faults("count of a [  ^2  , *, *]", "count of a [ 0 : ^2 , *, *]", "count of a [ 1 : ^0 , *, *]", "count of c [ ^1 : 0 , *, *]");
+        faults("count of a [  ^2  , *, *]", "count of a [ 0 : ^2 , *, *]", "count of a [ 1 : ^0 , *, *]",
+            "count of c [ ^1 : 0 , *, *]");
     }
 
     /** "unknown" */
     private static void faultUnknown() {
-        faults("count of ^nope", "count of ^nope@1", "sum(^nope) of a", "sum(a + ^nope@1) of a", "count of a where ^nope = 1", "count of a where 1 = ^aa");
+        faults("count of ^nope", "count of ^nope@1", "sum(^nope) of a", "sum(a + ^nope@1) of a", "count of a where ^nope = 1",
+            "count of a where 1 = ^aa");
     }
 
     /** "of other sizes" */
     private static void faultOfOtherSizes() {
-        faults("sum(1 + ^c) of a", "count of a where ^c = 1 by w", "count of a where x = ^c@1", "count of c where null( ^a )", "count of a where ^c@2 = 1");
+        faults("sum(1 + ^c) of a", "count of a where ^c = 1 by w", "count of a where x = ^c@1", "count of c where null( ^a )",
+            "count of a where ^c@2 = 1");
     }
 
     /** "of a version that is not there its number" */
@@ -369,30 +385,34 @@ final class QueryEdgesTest {
 
     /** "or of the first byte that begins no token" */
     private static void faultOfAByte() {
-        faults("^!", "^#count of a", "count ^# of a", "count of a ^# #", "sum(^$) of a", "count of a where x ^! = 1", "count of a^\0", "count of a ^A",
-            "count of a ^\u00ff", "count ^a #", "count of a by x ^\"", "count of a [0^.1, *, *]");
+        faults("^!", "^#count of a", "count ^# of a", "count of a ^# #", "sum(^$) of a", "count of a where x ^! = 1",
+            "count of a^\0", "count of a ^A", "count of a ^\u00ff", "count ^a #", "count of a by x ^\"",
+            "count of a [0^.1, *, *]");
     }
 
     /** "(a word or number that is too long or great: its first byte)" */
     private static void faultOfAWordOrNumber() {
-        faults("^aaaaaaa", "count of ^aaaaaaa", "count of a ^aaaaaaa", "sum(1 + ^aaaaaaaaaaaaaaaaaaaaaaaaaaaaaaa) of a", "sum(^2147483648) of a",
-            "sum(x - ^99999999999999999999) of a", "count of a@^2147483648", "count of a [0:^2147483648, *, *]", "count of a ^2147483648");
+        faults("^aaaaaaa", "count of ^aaaaaaa", "count of a ^aaaaaaa", "sum(1 + ^aaaaaaaaaaaaaaaaaaaaaaaaaaaaaaa) of a",
+            "sum(^2147483648) of a", "sum(x - ^99999999999999999999) of a", "count of a@^2147483648",
+            "count of a [0:^2147483648, *, *]", "count of a ^2147483648");
     }
 
     /** "or of the end if something is missing" */
     private static void faultOfTheEnd() {
-        faults("^", "   ^", "count^", "count   ^", "count,^", "count of^", "sum^", "sum(^", "sum(1^", "sum(1+^", "sum(-^", "sum(abs^", "sum(abs(^",
-            "sum((1)^", "sum(1)^", "count of a@^", "count of a [^", "count of a [0^", "count of a [0:^", "count of a [0:1,^", "count of a [*,*,*^");
-        faults("count of a where^", "count of a where not^", "count of a where (^", "count of a where null^", "count of a where null(^",
-            "count of a where null(x^", "count of a where x^", "count of a where x =^", "count of a where x = 1 and^", "count of a where x = 1 or^",
-            "count of a where (x = 1^", "count of a by^", "count of a by ^");
+        faults("^", "   ^", "count^", "count   ^", "count,^", "count of^", "sum^", "sum(^", "sum(1^", "sum(1+^", "sum(-^",
+            "sum(abs^", "sum(abs(^", "sum((1)^", "sum(1)^", "count of a@^", "count of a [^", "count of a [0^", "count of a [0:^",
+            "count of a [0:1,^", "count of a [*,*,*^");
+        faults("count of a where^", "count of a where not^", "count of a where (^", "count of a where null^",
+            "count of a where null(^", "count of a where null(x^", "count of a where x^", "count of a where x =^",
+            "count of a where x = 1 and^", "count of a where x = 1 or^", "count of a where (x = 1^", "count of a by^",
+            "count of a by ^");
     }
 
     /** A text that is cut behind any of its tokens lacks something, but where it is a query. */
     private static void everyPrefix() {
-        String[] tokens = {"count", ",", "sum", "(", "-", "it", "*", "b", "@", "1", "+", "abs", "(", "x", ")", ")", "of", "a", "@", "1",
-            "[", "0", ":", "1", ",", "*", ",", "1", "]", "where", "not", "(", "null", "(", "it", ")", "or", "z", ">", "1", ")", "and",
-            "y", "!=", "2", "by", "y"};
+        String[] tokens = {"count", ",", "sum", "(", "-", "it", "*", "b", "@", "1", "+", "abs", "(", "x", ")", ")", "of", "a",
+            "@", "1", "[", "0", ":", "1", ",", "*", ",", "1", "]", "where", "not", "(", "null", "(", "it", ")", "or", "z", ">",
+            "1", ")", "and", "y", "!=", "2", "by", "y"};
         ArrayVault vault = Scene.ready();
         String text = "";
         for (int n = 0; n < tokens.length; n++) {

@@ -1,6 +1,6 @@
 import java.util.Arrays;
 
-/** The edges of THE TAPE, TOKENS and NAMES in the document's Terms, and those of promises 2 and 3: one method for each sentence. */
+/** The edges of THE TAPE, TOKENS and NAMES in the document's Terms, and of promises 2 and 3: one method for each sentence. */
 final class TapeEdgesTest {
     private static final Checks CHECKS = new Checks("TapeEdgesTest");
     private static final String[] RESERVED = {"of", "where", "by", "count", "sum", "min", "max", "first", "and", "or", "not",
@@ -209,8 +209,10 @@ final class TapeEdgesTest {
     /** "with blanks (32) between where one likes" */
     private static void blanksWhereOneLikes() {
         ArrayVault vault = Scene.ready();
-        CHECKS.rows(vault, "count,max(it)of a@1[1,0:1,*]where it>100and not it=110by y", Checks.row(0, 1, 101), Checks.row(1, 1, 111));
-        CHECKS.rows(vault, "  count  ,  max  (  it  )  of  a  @  1  [  1  ,  0  :  1  ,  *  ]  where  it  >  100  and  not  it  =  110  by  y  ",
+        CHECKS.rows(vault, "count,max(it)of a@1[1,0:1,*]where it>100and not it=110by y", Checks.row(0, 1, 101),
+            Checks.row(1, 1, 111));
+        CHECKS.rows(vault,
+            "  count  ,  max  (  it  )  of  a  @  1  [  1  ,  0  :  1  ,  *  ]  where  it  >  100  and  not  it  =  110  by  y  ",
             Checks.row(0, 1, 101), Checks.row(1, 1, 111));
         CHECKS.fault(vault, "^cou nt of a");
         CHECKS.fault(vault, "count of a where x ^! = 0");

@@ -21,6 +21,7 @@ final class ValuesEdgesTest {
         testsWithNull();
         nullTests();
         notAndOr();
+        testsAreNeverNull();
         orderOfOperations();
         byRisingXThenYThenZ();
         coordinates();
@@ -108,17 +109,19 @@ final class ValuesEdgesTest {
         Checks.make(vault, "a", 2, 2, 1);
         CHECKS.tells(vault, "sum" + GREATEST_TEXT + " of a", -4);
         CHECKS.tells(vault, "sum" + LEAST_TEXT + " of a", 0);
-        CHECKS.rows(vault, "sum" + GREATEST_TEXT + ", max" + GREATEST_TEXT + " of a by x", Checks.row(0, -2, GREATEST), Checks.row(1, -2, GREATEST));
+        CHECKS.rows(vault, "sum" + GREATEST_TEXT + ", max" + GREATEST_TEXT + " of a by x", Checks.row(0, -2, GREATEST),
+            Checks.row(1, -2, GREATEST));
         vault.fill(0, 0, Checks.at(1, 1, 0), Integer.MAX_VALUE, 0, 0, 0);
         CHECKS.tells(vault, "sum(it) of a", 4L * Integer.MAX_VALUE);
         vault.fill(0, 0, Checks.at(1, 1, 0), Integer.MIN_VALUE, 0, 0, 0);
-        CHECKS.rows(vault, "sum(it), max(-it), max(abs(it)) of a", Checks.row(0, 4L * Integer.MIN_VALUE, 2147483648L, 2147483648L));
+        CHECKS.rows(vault, "sum(it), max(-it), max(abs(it)) of a",
+            Checks.row(0, 4L * Integer.MIN_VALUE, 2147483648L, 2147483648L));
     }
 
     /** "What is made of NULL is NULL" */
     private static void whatIsMadeOfNull() {
-        for (String expr : new String[] {"n", "-n", "abs(n)", "(n)", "n + 1", "1 + n", "n - 1", "1 - n", "n * 0", "0 * n", "n / 1", "0 / n",
-            "n % 1", "0 % n", "n + n", "n - n", "n / n", "n / 0", "1 + 2 * (3 - abs(-n))"}) {
+        for (String expr : new String[] {"n", "-n", "abs(n)", "(n)", "n + 1", "1 + n", "n - 1", "1 - n", "n * 0", "0 * n",
+            "n / 1", "0 / n", "n % 1", "0 % n", "n + n", "n - n", "n / n", "n / 0", "1 + 2 * (3 - abs(-n))"}) {
             is(expr, NULL);
         }
         is("it + 0 * it", 7);
@@ -178,7 +181,8 @@ final class ValuesEdgesTest {
             holds(false, "n " + sign + " 1", "1 " + sign + " n", "n " + sign + " n", "n " + sign + " 0", "0 " + sign + " n");
             holds(true, "not n " + sign + " 1", "not 1 " + sign + " n", "not n " + sign + " n");
         }
-        holds(true, "1 = 1", "1 != 2", "1 < 2", "1 <= 1", "1 <= 2", "2 > 1", "1 >= 1", "2 >= 1", "-1 < 0", "0 > -1", "it = 7", "a = it");
+        holds(true, "1 = 1", "1 != 2", "1 < 2", "1 <= 1", "1 <= 2", "2 > 1", "1 >= 1", "2 >= 1", "-1 < 0", "0 > -1", "it = 7",
+            "a = it");
         holds(false, "1 = 2", "1 != 1", "1 < 1", "2 < 1", "2 <= 1", "1 > 1", "1 > 2", "1 >= 2", "0 < -1", "it != 7");
         holds(true, "0 > 1 * " + LEAST_TEXT, "0 < 1 * " + GREATEST_TEXT, "1 * " + LEAST_TEXT + " < " + GREATEST_TEXT,
             "65536 * 65536 > 0");
@@ -197,8 +201,19 @@ final class ValuesEdgesTest {
         holds(false, t + " and " + f, f + " and " + t, f + " and " + f, f + " or " + f, "not " + t, "not not " + f);
         holds(true, t + " or " + t + " and " + f, f + " and " + f + " or " + t, "not " + f + " and " + t, "not " + f + " or " + f,
             "not (" + t + " and " + f + ")", "(" + t + " or " + f + ") and " + t, "not " + t + " or " + t);
-        holds(false, "(" + t + " or " + t + ") and " + f, f + " and (" + f + " or " + t + ")", "not " + t + " and " + f, "not (" + f + " or " + t + ")",
-            "not " + f + " and " + f);
+        holds(false, "(" + t + " or " + t + ") and " + f, f + " and (" + f + " or " + t + ")", "not " + t + " and " + f,
+            "not (" + f + " or " + t + ")", "not " + f + " and " + f);
+    }
+
+    /** A TEST is never NULL itself, so what is false for a NULL goes on as any other. */
+    private static void testsAreNeverNull() {
+        String t = "1 = 1", f = "1 = 2";
+        holds(true, "n = 1 or " + t, t + " or n = 1", "null(n) and " + t, t + " and null(n)", "null(n) or " + f,
+            f + " or null(n)", "not n = 1 and " + t, t + " and not n = 1", "not (n = 1 and " + t + ")",
+            "not (n = 1 or " + f + ")", "null(n) and null(n)", "n = 1 or null(n)", "null(n) or n = 1",
+            "not (n = 1) and not (1 < n)");
+        holds(false, "n = 1 or " + f, f + " or n = 1", "n = 1 and " + t, t + " and n = 1", "not null(n) and " + t,
+            "not null(n) or " + f, "n = 1 or n != 1", "not (n = 1 or " + t + ")", "not (null(n) and " + t + ")");
     }
 
     private static void orderOfOperations() {
@@ -221,7 +236,8 @@ final class ValuesEdgesTest {
         ArrayVault vault = new ArrayVault();
         Checks.make(vault, "a", 2, 2, 2);
         for (int i = 0; i < 8; i++) {
-            CHECKS.tells(vault, "first(100 * x + 10 * y + z) of a where 4 * x + 2 * y + z >= " + i, i / 4 * 100 + i / 2 % 2 * 10 + i % 2);
+            CHECKS.tells(vault, "first(100 * x + 10 * y + z) of a where 4 * x + 2 * y + z >= " + i,
+                i / 4 * 100 + i / 2 % 2 * 10 + i % 2);
         }
         CHECKS.tells(vault, "first(x * 10 + y) of a where x + y = 1", 1);
         CHECKS.tells(vault, "first(y * 10 + z) of a where y + z = 1", 1);
@@ -281,7 +297,8 @@ final class ValuesEdgesTest {
         ArrayVault vault = Scene.ready();
         CHECKS.tells(vault, "count of c", 6);
         CHECKS.tells(vault, "count of a", 12);
-        CHECKS.rows(vault, "count, count of a where null(it) by y", Checks.row(0, 0, 0), Checks.row(1, 0, 0), Checks.row(2, 1, 1));
+        CHECKS.rows(vault, "count, count of a where null(it) by y", Checks.row(0, 0, 0), Checks.row(1, 0, 0),
+            Checks.row(2, 1, 1));
     }
 
     /** "sum, min, max of the EXPR of those where it is not NULL" */
@@ -312,7 +329,8 @@ final class ValuesEdgesTest {
         vault.wipe(0, 0, Checks.at(0, 1, 1));
         CHECKS.tells(vault, "first(it) of a", 20);
         CHECKS.tells(vault, "first(it) of a [*, 0:1, *]", 100);
-        CHECKS.rows(vault, "first(it), first(b), first(x) of a where z = 1 by y", Checks.row(0, 101, 2, 0), Checks.row(1, 111, 12, 0), Checks.row(2, 21, 22, 0));
+        CHECKS.rows(vault, "first(it), first(b), first(x) of a where z = 1 by y", Checks.row(0, 101, 2, 0),
+            Checks.row(1, 111, 12, 0), Checks.row(2, 21, 22, 0));
         CHECKS.tells(vault, "first(it) of a [0, 0:1, *]", NULL);
         vault.set(0, 0, 0, 0, 0);
         CHECKS.tells(vault, "first(it) of a", 0);
@@ -321,7 +339,8 @@ final class ValuesEdgesTest {
     /** "A row with by is there also if none COUNTS" */
     private static void rowsOfWhichNoneCounts() {
         ArrayVault vault = Scene.ready();
-        CHECKS.rows(vault, "count, sum(it), max(it) of a where y = 1 by y", Checks.row(0, 0, 0, NULL), Checks.row(1, 4, 242, 111), Checks.row(2, 0, 0, NULL));
+        CHECKS.rows(vault, "count, sum(it), max(it) of a where y = 1 by y", Checks.row(0, 0, 0, NULL), Checks.row(1, 4, 242, 111),
+            Checks.row(2, 0, 0, NULL));
         CHECKS.rows(vault, "count, first(it) of a where 1 = 2 by x", Checks.row(0, 0, NULL), Checks.row(1, 0, NULL));
         CHECKS.rows(vault, "count, min(it) of a [1, 1:2, *] where 1 = 2 by y", Checks.row(1, 0, NULL), Checks.row(2, 0, NULL));
     }
