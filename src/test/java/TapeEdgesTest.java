@@ -11,6 +11,7 @@ final class TapeEdgesTest {
         atMost600();
         fullFrom581();
         allBytesAreRead();
+        eachByteAToken();
         highestByteFirst();
         endRefusesMoreThanThereIs();
         endRefusesBelowZero();
@@ -78,6 +79,18 @@ final class TapeEdgesTest {
         CHECKS.fault(vault, "count of a by" + " ".repeat(586) + "^w");
         CHECKS.fault(vault, "count of a by" + " ".repeat(587) + "^");
         CHECKS.fault(vault, " ".repeat(599) + "^#");
+    }
+
+    /** No text has more tokens than a full tape of signs. */
+    private static void eachByteAToken() {
+        for (int length : new int[] {598, 599, 600}) {
+            ArrayVault vault = Scene.one();
+            CHECKS.fault(vault, "^" + "(".repeat(length));
+            CHECKS.fault(vault, "sum(" + "(".repeat(8) + "^" + "(".repeat(length - 12));
+            CHECKS.fault(vault, "^" + ",".repeat(length - 1) + "#");
+            CHECKS.due("make", Checks.make(vault, "(".repeat(length), 1, 1, 1), ArrayVault.REFUSED);
+            CHECKS.tells(vault, "count of a", 1);
+        }
     }
 
     /** "Twenty bytes, five times four, the highest of each first" */
