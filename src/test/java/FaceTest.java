@@ -5,8 +5,11 @@ import java.nio.file.Files;
 import java.nio.file.Path;
 import java.util.ArrayList;
 import java.util.List;
+import java.util.Map;
 import java.util.Set;
 import java.util.TreeSet;
+import java.util.regex.Matcher;
+import java.util.regex.Pattern;
 
 /** The public face of the document, and those rules of LANGUAGE.md that can be seen without reading. */
 final class FaceTest {
@@ -15,11 +18,19 @@ final class FaceTest {
         "set(int,int,int,int,int)int", "fill(int,int,int,int,int,int,int)int", "wipe(int,int,int)int", "commit()int",
         "open(int)int", "drop(int)int", "differ(int,int)int", "get(int,int,int,int,int)long", "query()int", "rows()int",
         "cell(int,int)long", "count(int)int");
-    private static final Set<String> CONSTANTS = Set.of("REFUSED", "NONE", "FULL", "THERE");
+    private static final Map<String, Integer> CONSTANTS = Map.of("REFUSED", -1, "NONE", -2, "FULL", -3, "THERE", -4);
+    private static final Set<Class<?>> NUMBERS = Set.of(int.class, long.class, short.class, byte.class, char.class, double.class,
+        float.class);
+    private static final Set<String> LIBRARY = Set.of("Math.min", "Math.max", "Math.abs", "System.arraycopy", "Arrays.fill",
+        "Arrays.copyOf", "Arrays.copyOfRange");
 
-    public static void main(String[] args) throws IOException {
+    public static void main(String[] args) throws ReflectiveOperationException, IOException {
         face();
+        constants();
+        constructor();
         classesInside();
+        types();
+        staticFields();
         source();
         CHECKS.close();
     }
@@ -41,22 +52,35 @@ final class FaceTest {
             }
         }
         yes("the methods are the face: " + methods, methods.equals(new TreeSet<>(FACE)));
-        Set<String> fields = new TreeSet<>();
-        for (var f : vault.getDeclaredFields()) {
+    }
+
+    private static void constants() throws IllegalAccessException {
+        Set<String> found = new TreeSet<>();
+        for (var f : ArrayVault.class.getDeclaredFields()) {
             if (!Modifier.isPrivate(f.getModifiers())) {
-                fields.add(f.getName());
+                found.add(f.getName());
                 yes(f.getName() + " is a public constant", Modifier.isPublic(f.getModifiers())
                     && Modifier.isStatic(f.getModifiers()) && Modifier.isFinal(f.getModifiers()) && f.getType() == int.class);
+                CHECKS.due(f.getName(), f.getInt(null), CONSTANTS.getOrDefault(f.getName(), 0));
             }
         }
-        yes("the constants are the face: " + fields, fields.equals(new TreeSet<>(CONSTANTS)));
-        CHECKS.due("constructors", vault.getConstructors().length, 1);
-        CHECKS.due("declared constructors", vault.getDeclaredConstructors().length, 1);
+        yes("the constants are the face: " + found, found.equals(CONSTANTS.keySet()));
+    }
+
+    private static void constructor() {
+        CHECKS.due("declared constructors", ArrayVault.class.getDeclaredConstructors().length, 1);
+        CHECKS.due("public constructors", ArrayVault.class.getConstructors().length, 1);
+        CHECKS.due("its parameters", ArrayVault.class.getDeclaredConstructors()[0].getParameterCount(), 0);
+    }
+
+    private static List<Class<?>> classes() {
+        List<Class<?>> classes = new ArrayList<>(List.of(ArrayVault.class.getDeclaredClasses()));
+        classes.add(ArrayVault.class);
+        return classes;
     }
 
     private static void classesInside() {
-        List<Class<?>> classes = new ArrayList<>(List.of(ArrayVault.class.getDeclaredClasses()));
-        classes.add(ArrayVault.class);
+        List<Class<?>> classes = classes();
         yes("some twelve classes", classes.size() <= 13);
         for (Class<?> c : classes) {
             yes(c + " is static and not public", c == ArrayVault.class
@@ -70,6 +94,50 @@ final class FaceTest {
             for (var m : c.getDeclaredMethods()) {
                 yes(m + " takes at most seven", m.getParameterCount() <= 7);
                 yes(m + " does not bear a name of the face", c == ArrayVault.class || !isOfFace(m));
+            }
+        }
+    }
+
+    /** Rule 3, of fields, parameters and answers. */
+    private static void types() {
+        for (Class<?> c : classes()) {
+            for (var f : c.getDeclaredFields()) {
+                yes("a type that is allowed: " + f, isAllowed(f.getType()));
+            }
+            for (var m : c.getDeclaredMethods()) {
+                yes("an answer that is allowed: " + m, m.getReturnType() == void.class || isAllowed(m.getReturnType()));
+                for (var p : m.getParameterTypes()) {
+                    yes("a parameter that is allowed: " + m, isAllowed(p));
+                }
+            }
+        }
+    }
+
+    private static boolean isAllowed(Class<?> type) {
+        if (!type.isArray()) {
+            return isPlain(type);
+        }
+        Class<?> of = type.getComponentType();
+        return of.isArray() ? NUMBERS.contains(of.getComponentType()) : isPlain(of);
+    }
+
+    private static boolean isPlain(Class<?> type) {
+        return NUMBERS.contains(type) || type == boolean.class || type == String.class || classes().contains(type);
+    }
+
+    /** Rule 5, and rule 2 on the fields of enums; the row of an enum's constants that rule 12 asks for is one of its class. */
+    private static void staticFields() {
+        Set<Class<?>> constants = Set.of(int.class, long.class, boolean.class, char.class, String.class);
+        Set<Class<?>> rows = Set.of(int[].class, long[].class, char[].class, byte[].class);
+        for (Class<?> c : classes()) {
+            for (var f : c.getDeclaredFields()) {
+                Class<?> type = f.getType();
+                if (Modifier.isStatic(f.getModifiers())) {
+                    boolean ofEnum = c.isEnum() && (type == c || type == c.arrayType());
+                    yes("a static field that is allowed: " + f, ofEnum || constants.contains(type) || rows.contains(type));
+                } else if (c.isEnum()) {
+                    yes("an enum's field that is allowed: " + f, constants.contains(type) && type != char.class);
+                }
             }
         }
     }
@@ -94,6 +162,14 @@ final class FaceTest {
             yes("no " + word, !text.matches("(?s).*\\b" + word.replace(".", "\\.") + "\\b.*"));
         }
         yes("no lambda or method reference", !text.contains("->") && !text.contains("::"));
+        yes("no anonymous class", !text.matches("(?s).*new \\w+\\([^()]*\\) \\{.*"));
+        yes("no static block", !text.contains("static {"));
+        yes("no name ending in Exact", !text.matches("(?s).*Exact\\(.*"));
+        Matcher calls = Pattern.compile("\\b(?:Math|System|Arrays|Integer|Long|String)\\.\\w+").matcher(text);
+        while (calls.find()) {
+            yes("the library: " + calls.group(), LIBRARY.contains(calls.group()));
+        }
+        yes("characters 0 to 127 alone", lines.stream().allMatch(line -> line.chars().allMatch(c -> c < 128)));
         for (String line : code) {
             yes("an import that is allowed: " + line, !line.startsWith("import") || line.equals("import java.util.Arrays;"));
         }

@@ -3,22 +3,20 @@ import java.util.Random;
 /** Runs of calls from fixed seeds, done by the program and by the model: their answers are the same. */
 final class ModelTest {
     private static final int RUNS = 600, CALLS = 480;
-    private static final String[] NAMES = {"a", "b", "c", "grid", "abcdef", "xx", "d", "e"};
     private static final int[] VALUES = {0, 1, -1, 2, 7, -7, 10, 1000, Integer.MAX_VALUE, Integer.MIN_VALUE};
-    private static final String[] SCRAPS = {"(", ")", "[", "]", ",", ":", "@", "*", "+", "-", "/", "%", "=", "!=", "<", "<=", ">",
-        ">=", "of", "where", "by", "count", "sum", "min", "max", "first", "and", "or", "not", "null", "it", "x", "y", "z",
-        "abs", "a", "b", "nope", "1", "2147483647", "2147483648", "abcdefg", "!", "#", " ", "0", "5", "\0", "A", "\u00e1"};
 
     private final Random random;
     private final Checks checks;
     private final ArrayVault vault = new ArrayVault();
     private final Model model = new Model();
+    private final Texts texts;
     private final String run;
     private int calls;
 
     private ModelTest(Checks checks, int seed) {
         this.checks = checks;
         this.random = new Random(seed);
+        this.texts = new Texts(random, this::version);
         this.run = "run " + seed + ": ";
     }
 
@@ -36,10 +34,6 @@ final class ModelTest {
 
     private int below(int n) {
         return random.nextInt(n);
-    }
-
-    private String one(String... of) {
-        return of[below(of.length)];
     }
 
     private void due(String what, long got, long want) {
@@ -63,7 +57,7 @@ final class ModelTest {
     private void makeSome() {
         int alike = 1 + below(3);
         for (int i = 0; i < 3; i++) {
-            write(NAMES[i]);
+            write(Texts.NAMES[i]);
             int x = i < 2 ? 1 + alike : 1 + below(3);
             due("make", vault.make(x, 2, alike), model.make(x, 2, alike));
         }
@@ -106,7 +100,7 @@ final class ModelTest {
     }
 
     private void makeAny() {
-        String name = one(NAMES);
+        String name = texts.one(Texts.NAMES);
         write(name);
         int x = below(5), y = 1 + below(3), z = 1 + below(3);
         due("make " + name, vault.make(x, y, z), model.make(x, y, z));
@@ -138,9 +132,9 @@ final class ModelTest {
     }
 
     private void ask() {
-        String text = query();
+        String text = texts.query();
         for (int i = below(3); i > 1; i--) {
-            text = spoiled(text);
+            text = texts.spoiled(text);
         }
         if (text.length() > 590) {
             return;
@@ -156,77 +150,5 @@ final class ModelTest {
         }
         int r = below(6) - 1, c = below(8) - 1;
         due("cell(" + r + ", " + c + ") of " + text, vault.cell(r, c), model.cell(r, c));
-    }
-
-    private String spoiled(String text) {
-        int at = below(text.length() + 1);
-        int to = Math.min(text.length(), at + (below(2) == 0 ? 0 : below(3)));
-        return text.substring(0, at) + (below(3) == 0 ? "" : one(SCRAPS)) + text.substring(to);
-    }
-
-    private String query() {
-        StringBuilder text = new StringBuilder(tell());
-        for (int i = below(3); i > 0; i--) {
-            text.append(one(",", ", ", " , ")).append(tell());
-        }
-        text.append(" of ").append(arrayText());
-        if (below(2) == 0) {
-            text.append(" [").append(range()).append(", ").append(range()).append(",").append(range()).append("]");
-        }
-        if (below(2) == 0) {
-            text.append(" where ").append(test(below(5)));
-        }
-        if (below(2) == 0) {
-            text.append(" by ").append(one("x", "y", "z"));
-        }
-        return text.toString();
-    }
-
-    private String tell() {
-        return below(4) == 0 ? "count" : one("sum", "min", "max", "first") + "(" + expr(below(6)) + ")";
-    }
-
-    private String arrayText() {
-        String name = below(4) == 0 ? NAMES[2 + below(4)] : one("a", "b");
-        return below(3) == 0 ? name + "@" + version() : name;
-    }
-
-    private String range() {
-        int low = below(2);
-        return switch (below(4)) {
-            case 0 -> "" + low;
-            case 1 -> low + ":" + (low + below(2));
-            default -> "*";
-        };
-    }
-
-    private String expr(int size) {
-        if (size <= 0) {
-            return one("it", "it", "x", "y", "z", "0", "1", "3", "" + below(100), "2147483647", arrayText());
-        }
-        return switch (below(8)) {
-            case 0 -> one("-", "- ") + expr(size - 1);
-            case 1 -> "abs(" + expr(size - 1) + ")";
-            case 2 -> "(" + expr(size - 1) + ")";
-            default -> {
-                int left = below(size);
-                yield expr(left) + one(" + ", " - ", " * ", " / ", " % ", "+", "-", "*", "/", "%") + expr(size - 1 - left);
-            }
-        };
-    }
-
-    private String test(int size) {
-        if (size <= 0) {
-            return below(4) == 0 ? "null(" + expr(below(3)) + ")"
-                : expr(below(3)) + one(" = ", " != ", " < ", " <= ", " > ", " >= ", "=", "<", ">=") + expr(below(3));
-        }
-        return switch (below(5)) {
-            case 0 -> "not " + test(size - 1);
-            case 1 -> "(" + test(size - 1) + ")";
-            default -> {
-                int left = below(size);
-                yield test(left) + one(" and ", " or ") + test(size - 1 - left);
-            }
-        };
     }
 }

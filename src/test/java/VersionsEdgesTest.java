@@ -15,6 +15,7 @@ final class VersionsEdgesTest {
         madeBehindAVersion();
         droppedAreThereNoMore();
         numbersStay();
+        numbersToTheLastCall();
         openTellsHowManyDiffered();
         openLeavesTheVersions();
         openOfNone();
@@ -155,6 +156,24 @@ final class VersionsEdgesTest {
         for (int dropped = 1; dropped <= 5; dropped++) {
             CHECKS.due("none has " + dropped, vault.open(dropped), ArrayVault.NONE);
         }
+    }
+
+    /** As many numbers as an object's calls can give: 256 versions in 512 calls. */
+    private static void numbersToTheLastCall() {
+        ArrayVault vault = new ArrayVault();
+        for (int i = 1; i <= 256; i++) {
+            CHECKS.due("commit " + i, vault.commit(), i);
+            CHECKS.due("drop " + i, vault.drop(i), 0);
+        }
+        ArrayVault later = Scene.one();
+        for (int i = 1; i <= 166; i++) {
+            later.set(0, 0, 0, 0, i);
+            later.commit();
+            later.drop(i - 1);
+        }
+        CHECKS.due("the greatest", later.count(2), 166);
+        CHECKS.due("the one that is left", later.get(0, 0, 0, 0, 166), 166);
+        CHECKS.tells(later, "sum(it) of a@166", 166);
     }
 
     /** Promise 9: "The work becomes a version: how many cells, of all arrays, differed from it" */
